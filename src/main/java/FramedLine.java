@@ -18,6 +18,7 @@ public final class FramedLine {
     private static final int LAST_OF_FIRST_HALF = 7;
     private static final int LAST_OF_ROUND = 15;
     private static final int LINE_DELAY = 3;
+    private static final int FOUR_BITS = 15;
 
     private static final int ALL_BUT_FIRST_BIT = 0x7FFFFFFF;
     private static final int EVEN_WORD = 0x1B;
@@ -32,7 +33,6 @@ public final class FramedLine {
     private static final int TELLS_FIRST_HALF = 13;
     private static final int TELLS_SECOND_HALF = 15;
     private static final int CHECK_HIGHEST = 3;
-    private static final int CHECK_MASK = 15;
     private static final int CHECK_CHANGE = 3;
 
     private final End zero;
@@ -133,7 +133,7 @@ public final class FramedLine {
         int c = check;
         for (int place = FRAME_BITS - 1; place >= 0; place--) {
             int b = (frameBits >>> place & 1) ^ (c >> CHECK_HIGHEST);
-            c = c << 1 & CHECK_MASK;
+            c = c << 1 & FOUR_BITS;
             if (b == 1) {
                 c ^= CHECK_CHANGE;
             }
@@ -183,6 +183,7 @@ public final class FramedLine {
     /** Makes the frames of an end. */
     private static final class Sender {
         private final int[] loaded;
+        /** The number of the frame that begins next. */
         private int next;
         private int frameBits;
         private int bitsSent;
@@ -229,12 +230,12 @@ public final class FramedLine {
         private int evenSlotZero() {
             int evenInHalf = next >> 1 & 3;
             int c = checkOfHalfBefore >> (CHECK_HIGHEST - evenInHalf) & 1;
-            return c << 7 | EVEN_WORD;
+            return c << (SLOT_BITS - 1) | EVEN_WORD;
         }
 
         private int oddSlotZero(Receiver own) {
             int alarmBit = own.isAligned() ? 0 : ALARM_BIT;
-            return firstBitOfOdd(own.rounds) << 7 | ODD_WORD | alarmBit;
+            return firstBitOfOdd(own.rounds) << (SLOT_BITS - 1) | ODD_WORD | alarmBit;
         }
 
         private int firstBitOfOdd(Rounds own) {
@@ -313,7 +314,7 @@ public final class FramedLine {
         /** Answers false, and changes nothing, when there is no room for one more. */
         boolean change(int time, int symbol) {
             int at = placeOf(time);
-            if (at == MOST_DISTURBED) {
+            if (at >= MOST_DISTURBED) {
                 return false;
             }
             if (at == waiting) {
@@ -361,16 +362,17 @@ public final class FramedLine {
     /** Makes bits of symbols and counts the faults of the line code. */
     private static final class Decoder {
         private int latestSymbol;
+        /** 0 when there was none. */
         private int latestPulse;
         private int latestV;
         private int zeros;
+        /** The bits of the latest four symbols: a V can still change the oldest of them. */
         private int latestBits;
         private int symbolsAhead;
         private int faults;
 
         Decoder() {
             latestSymbol = 0;
-            // 0 stands for none yet
             latestPulse = 0;
             latestV = 0;
             zeros = 0;
@@ -395,7 +397,7 @@ public final class FramedLine {
         }
 
         private void takeZero() {
-            latestBits = latestBits << 1 & 15;
+            latestBits = latestBits << 1 & FOUR_BITS;
             zeros++;
             if (latestPulse != 0 && (zeros & 3) == 0) {
                 faults++;
@@ -407,7 +409,7 @@ public final class FramedLine {
             if (violation && zeros >= 2) {
                 takeV(pulse);
             } else {
-                latestBits = (latestBits << 1 | 1) & 15;
+                latestBits = (latestBits << 1 | 1) & FOUR_BITS;
                 if (violation) {
                     faults++;
                 }
@@ -436,8 +438,8 @@ public final class FramedLine {
         private final Rounds rounds;
         private State state;
         private int latestBits;
-        private int bitsInState;
-        private int bitsOfFrame;
+        /** Bits since the search began, behind the word that is tried, or of the frame. */
+        private int bits;
         private boolean odd;
         private int wrongWords;
         private int latestFrame;
@@ -449,8 +451,7 @@ public final class FramedLine {
             rounds = new Rounds();
             state = State.SEARCHING;
             latestBits = 0;
-            bitsInState = 0;
-            bitsOfFrame = 0;
+            bits = 0;
             odd = false;
             wrongWords = 0;
             latestFrame = 0;
@@ -472,28 +473,28 @@ public final class FramedLine {
 
         void takeBit(int bit) {
             latestBits = latestBits << 1 | bit;
-            if (state == State.ALIGNED) {
-                follow();
-                return;
-            }
-            bitsInState++;
+            bits++;
             if (state == State.SEARCHING) {
                 search();
-            } else {
+            } else if (state == State.TRYING) {
                 tryWord(bit);
+            } else if (bits == FRAME_BITS) {
+                complete();
+            } else if (bits == SLOT_BITS && !odd) {
+                lookAtWord();
             }
         }
 
         private void search() {
-            if (bitsInState >= EVEN_WORD_BITS && wordStands()) {
+            if (bits >= EVEN_WORD_BITS && wordStands()) {
                 enter(State.TRYING);
             }
         }
 
         private void tryWord(int bit) {
-            if (bitsInState == SECOND_BIT_OF_NEXT && bit == 0) {
+            if (bits == SECOND_BIT_OF_NEXT && bit == 0) {
                 enter(State.SEARCHING);
-            } else if (bitsInState == WORD_BEHIND_NEXT) {
+            } else if (bits == WORD_BEHIND_NEXT) {
                 if (wordStands()) {
                     align();
                 } else {
@@ -504,18 +505,10 @@ public final class FramedLine {
 
         private void align() {
             enter(State.ALIGNED);
-            bitsOfFrame = SLOT_BITS;
+            // the frame whose word was the second one is the first frame
+            bits = SLOT_BITS;
             odd = false;
             wrongWords = 0;
-        }
-
-        private void follow() {
-            bitsOfFrame++;
-            if (bitsOfFrame == SLOT_BITS && !odd) {
-                lookAtWord();
-            } else if (bitsOfFrame == FRAME_BITS) {
-                complete();
-            }
         }
 
         private void lookAtWord() {
@@ -531,11 +524,11 @@ public final class FramedLine {
             latestFrame = latestBits;
             completeFrames++;
             if (odd) {
-                alarmCame = (latestFrame >>> 29 & 1) == 1;
+                alarmCame = (byteOf(0) & ALARM_BIT) != 0;
             }
             rounds.takeFrame(latestFrame, odd);
             odd = !odd;
-            bitsOfFrame = 0;
+            bits = 0;
         }
 
         private boolean wordStands() {
@@ -544,7 +537,7 @@ public final class FramedLine {
 
         private void enter(State other) {
             state = other;
-            bitsInState = 0;
+            bits = 0;
         }
     }
 
@@ -553,9 +546,11 @@ public final class FramedLine {
         private static final int MOST_WRONG_ROUNDS = 2;
 
         private int number;
+        /** Odd frames since the receiver was aligned. */
         private int oddFrames;
         private int firstBitsOfOdd;
         private int wrongRounds;
+        /** Whether the number was known from the beginning of this half, and of the one before. */
         private boolean halfBegunKnown;
         private boolean halfBeforeKnown;
         private int check;
@@ -588,39 +583,34 @@ public final class FramedLine {
             oddFrames = 0;
         }
 
-        void takeFrame(int bits, boolean odd) {
-            int firstBit = bits >>> (FRAME_BITS - 1);
+        void takeFrame(int frameBits, boolean odd) {
+            int firstBit = frameBits >>> (FRAME_BITS - 1);
             if (odd) {
                 oddFrames++;
                 firstBitsOfOdd = (firstBitsOfOdd << 1 | firstBit) & ROUND_WORD_MASK;
-            }
-            if (number != NONE) {
-                number = (number + 1) & LAST_OF_ROUND;
-                addToHalf(bits, odd);
-                judgeFirstBit(firstBit);
-                if (endsHalf(number)) {
-                    endHalf();
-                }
-            } else if (odd && oddFrames >= ROUND_WORD_BITS && firstBitsOfOdd == ROUND_WORD) {
-                number = END_OF_ROUND_WORD;
-                wrongRounds = 0;
-            }
-        }
-
-        private void addToHalf(int bits, boolean odd) {
-            if (odd) {
-                check = checkOver(check, bits);
             } else {
-                check = checkOver(check, bits & ALL_BUT_FIRST_BIT);
-                checkCome = (checkCome << 1 | bits >>> (FRAME_BITS - 1)) & CHECK_MASK;
+                checkCome = (checkCome << 1 | firstBit) & FOUR_BITS;
             }
-        }
-
-        private void judgeFirstBit(int firstBit) {
+            if (number == NONE) {
+                findNumber(odd);
+                return;
+            }
+            number = (number + 1) & LAST_OF_ROUND;
+            check = checkOver(check, odd ? frameBits : frameBits & ALL_BUT_FIRST_BIT);
             if (number == END_OF_ROUND_WORD) {
                 judgeRoundWord();
-            } else if ((number == TELLS_FIRST_HALF || number == TELLS_SECOND_HALF) && firstBit == 0) {
+            } else if (firstBit == 0 && (number == TELLS_FIRST_HALF || number == TELLS_SECOND_HALF)) {
                 farFaults++;
+            }
+            if (endsHalf(number)) {
+                endHalf();
+            }
+        }
+
+        private void findNumber(boolean odd) {
+            if (odd && oddFrames >= ROUND_WORD_BITS && firstBitsOfOdd == ROUND_WORD) {
+                number = END_OF_ROUND_WORD;
+                wrongRounds = 0;
             }
         }
 
