@@ -9,6 +9,7 @@ public final class FindingsTest {
     public static void main(String[] args) {
         aligned();
         alignedBehindATrial();
+        alignedBehindTheFirstSymbols();
         alignmentIsLost();
         alignmentIsKept();
         frame();
@@ -53,6 +54,21 @@ public final class FindingsTest {
         Due.is("7: no second word", y.to(Timed.ALIGNED + 127).line.aligned(1), false);
         Due.is("7: four frames later", y.to(Timed.ALIGNED + 128).line.aligned(1), true);
         Due.is("11: a trial that fails is no loss", y.line.count(1, 2), 0);
+    }
+
+    private static void alignedBehindTheFirstSymbols() {
+        // the first seven symbols are taken for a word; the trial fails only in frame 2, so that the
+        // search begins too late for the word of that frame
+        Timed x = new Timed().loadAll(0, 0, 0, 0x04);
+        come(x, 1, "00+-0+-");
+        Due.is("7: seven bits of a word", x.to(Timed.ALIGNED + 127).line.aligned(1), false);
+        Due.is("7: with the words of frames 4 and 6", x.to(Timed.ALIGNED + 128).line.aligned(1), true);
+
+        // the first six symbols would be the end of a word if there had been a bit before them
+        Timed y = new Timed().loadAll(0, 0, 0, 0x08);
+        come(y, 1, "0+-0+-");
+        Due.is("7: six bits of a word", y.to(Timed.ALIGNED + 63).line.aligned(1), false);
+        Due.is("7: with the words of frames 2 and 4", y.to(Timed.ALIGNED + 64).line.aligned(1), true);
     }
 
     private static void alignmentIsLost() {
@@ -154,18 +170,18 @@ public final class FindingsTest {
     }
 
     private static void slotWithCheckBits() {
-        Due.is("9: C of zeros", checkBits(0, 0, 0), "0111 1001 0110");
-        Due.is("9: C of small bytes", checkBits(1, 2, 3), "1100 0010 1101");
-        Due.is("9: C of others", checkBits(0xA5, 0x5A, 0xFF), "1011 0101 1010");
+        Due.is("9: C of zeros", checkBits(0, 0, 0), "000 0111 1001 0110");
+        Due.is("9: C of small bytes", checkBits(1, 2, 3), "000 1100 0010 1101");
+        Due.is("9: C of others", checkBits(0xA5, 0x5A, 0xFF), "000 1011 0101 1010");
     }
 
-    /** C as it comes in the second, third and fourth half: the checks of the first three. */
+    /** C as it comes in the first half, but for frame 0, and in the three halves behind it. */
     private static String checkBits(int first, int second, int third) {
         Timed x = new Timed().loadAll(0, first, second, third);
         StringBuilder bits = new StringBuilder();
-        for (int frame = 8; frame < 32; frame += 2) {
+        for (int frame = 2; frame < 32; frame += 2) {
             x.to(Timed.complete(frame));
-            bits.append(frame == 16 || frame == 24 ? " " : "").append(x.line.slot(1, 0) >> 7);
+            bits.append(frame % 8 == 0 ? " " : "").append(x.line.slot(1, 0) >> 7);
         }
         return bits.toString();
     }
@@ -233,16 +249,21 @@ public final class FindingsTest {
         Due.is("11: one pulse after another", codeFaults("+0-00+0-"), 0);
     }
 
-    /** The code faults of an end to which only these symbols came; at most eight can be pulses. */
+    /** The code faults of an end to which only these symbols came. */
     private static int codeFaults(String symbols) {
         Timed x = new Timed();
+        come(x, 0, symbols);
+        return x.to(symbols.length()).line.count(0, 1);
+    }
+
+    /** Lets these symbols come to an end of a new object first. */
+    private static void come(Timed x, int end, String symbols) {
         for (int i = 0; i < symbols.length(); i++) {
-            // the first six that are sent are 0
+            // the first six that are sent are 0, and only eight can be disturbed
             if (i >= 6 || symbols.charAt(i) != '0') {
-                x.disturbBit(0, 0, i - 2, "-0+".indexOf(symbols.charAt(i)) - 1);
+                x.line.disturb(end, i + 1, "-0+".indexOf(symbols.charAt(i)) - 1);
             }
         }
-        return x.to(symbols.length()).line.count(0, 1);
     }
 
     private static void countOfWrongFirstHalves() {
