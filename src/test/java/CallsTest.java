@@ -7,16 +7,10 @@ public final class CallsTest {
     }
 
     public static void main(String[] args) {
-        newObject();
-        load();
-        loadWhenAFrameBegins();
-        disturb();
-        disturbHasRoomForEight();
-        slip();
-        slipOfADisturbedSymbol();
-        pass();
-        symbol();
-        symbolsBehindOddPulses();
+        Due.each(
+                CallsTest::newObject, CallsTest::load, CallsTest::loadWhenAFrameBegins, CallsTest::disturb,
+                CallsTest::disturbHasRoomForEight, CallsTest::slip, CallsTest::slipOfADisturbedSymbol,
+                CallsTest::pass, CallsTest::symbol, CallsTest::symbolsBehindOddPulses);
         Due.end();
     }
 

@@ -7,28 +7,15 @@ public final class FindingsTest {
     }
 
     public static void main(String[] args) {
-        aligned();
-        alignedBehindATrial();
-        alignedBehindTheFirstSymbols();
-        alignmentIsLost();
-        alignmentIsKept();
-        frame();
-        frameWhenAlignmentIsLost();
-        frameWhenTheNumberIsLost();
-        frameWhenTheNumberIsKept();
-        slot();
-        slotWithCheckBits();
-        alarm();
-        alarmOfAnEndThatIsAlignedLate();
-        countOfFrames();
-        countOfCodeFaults();
-        countOfWrongFirstHalves();
-        countOfWrongSecondHalves();
-        countOfHalvesThatBeginNotKnown();
-        countOfHalvesThatEndNotKnown();
-        countOfWrongCheckBits();
-        wrongIsForgottenWithTheAlignment();
-        wrongIsForgottenWithTheNumber();
+        Due.each(
+                FindingsTest::aligned, FindingsTest::alignedBehindATrial, FindingsTest::alignmentIsLost,
+                FindingsTest::alignmentIsKept, FindingsTest::frame, FindingsTest::frameWhenAlignmentIsLost,
+                FindingsTest::frameWhenTheNumberIsLost, FindingsTest::frameWhenTheNumberIsKept, FindingsTest::slot,
+                FindingsTest::slotWithCheckBits, FindingsTest::alarm, FindingsTest::alarmOfAnEndThatIsAlignedLate,
+                FindingsTest::countOfFrames, FindingsTest::countOfWrongFirstHalves,
+                FindingsTest::countOfWrongSecondHalves, FindingsTest::countOfHalvesThatBeginNotKnown,
+                FindingsTest::countOfHalvesThatEndNotKnown, FindingsTest::countOfWrongCheckBits,
+                FindingsTest::wrongIsForgottenWithTheAlignment, FindingsTest::wrongIsForgottenWithTheNumber);
         Due.end();
     }
 
@@ -54,21 +41,6 @@ public final class FindingsTest {
         Due.is("7: no second word", y.to(Timed.ALIGNED + 127).line.aligned(1), false);
         Due.is("7: four frames later", y.to(Timed.ALIGNED + 128).line.aligned(1), true);
         Due.is("11: a trial that fails is no loss", y.line.count(1, 2), 0);
-    }
-
-    private static void alignedBehindTheFirstSymbols() {
-        // the first seven symbols are taken for a word; the trial fails only in frame 2, so that the
-        // search begins too late for the word of that frame
-        Timed x = new Timed().loadAll(0, 0, 0, 0x04);
-        come(x, 1, "00+-0+-");
-        Due.is("7: seven bits of a word", x.to(Timed.ALIGNED + 127).line.aligned(1), false);
-        Due.is("7: with the words of frames 4 and 6", x.to(Timed.ALIGNED + 128).line.aligned(1), true);
-
-        // the first six symbols would be the end of a word if there had been a bit before them
-        Timed y = new Timed().loadAll(0, 0, 0, 0x08);
-        come(y, 1, "0+-0+-");
-        Due.is("7: six bits of a word", y.to(Timed.ALIGNED + 63).line.aligned(1), false);
-        Due.is("7: with the words of frames 2 and 4", y.to(Timed.ALIGNED + 64).line.aligned(1), true);
     }
 
     private static void alignmentIsLost() {
@@ -232,42 +204,8 @@ public final class FindingsTest {
         Due.is("11: three frames", x.to(Timed.complete(4)).line.count(1, 0), 3);
     }
 
-    private static void countOfCodeFaults() {
-        Due.is("11: three 0 behind a pulse", codeFaults("+000"), 0);
-        Due.is("11: four", codeFaults("+0000"), 1);
-        Due.is("11: seven", codeFaults("+0000000"), 1);
-        Due.is("11: eight", codeFaults("0+00000000"), 2);
-        Due.is("11: zeros behind no pulse", codeFaults("00000000"), 0);
-        Due.is("11: a violation right behind", codeFaults("++"), 1);
-        Due.is("11: a violation behind one 0", codeFaults("-0-"), 1);
-        Due.is("11: a V", codeFaults("+00+"), 0);
-        Due.is("11: a V behind three 0", codeFaults("+000+"), 0);
-        Due.is("11: a V as the one before", codeFaults("+00+00+"), 1);
-        Due.is("11: a V other than the one before", codeFaults("+00+-00-"), 0);
-        Due.is("11: a V as the one before, pulses between", codeFaults("+00+-+00+"), 1);
-        Due.is("11: a V behind four 0", codeFaults("-0000-"), 1);
-        Due.is("11: one pulse after another", codeFaults("+0-00+0-"), 0);
-    }
-
-    /** The code faults of an end to which only these symbols came. */
-    private static int codeFaults(String symbols) {
-        Timed x = new Timed();
-        come(x, 0, symbols);
-        return x.to(symbols.length()).line.count(0, 1);
-    }
-
-    /** Lets these symbols come to an end of a new object first. */
-    private static void come(Timed x, int end, String symbols) {
-        for (int i = 0; i < symbols.length(); i++) {
-            // the first six that are sent are 0, and only eight can be disturbed
-            if (i >= 6 || symbols.charAt(i) != '0') {
-                x.line.disturb(end, i + 1, "-0+".indexOf(symbols.charAt(i)) - 1);
-            }
-        }
-    }
-
     private static void countOfWrongFirstHalves() {
-        Timed x = withOnes().breakSlot(1, 33);
+        Timed x = Timed.withOnes().breakSlot(1, 33);
         Due.is("11: the half behind is not complete", x.to(Timed.complete(47) - 1).line.count(1, 3), 0);
         Due.is("11: a first half wrong", x.to(Timed.complete(47)).line.count(1, 3), 1);
         Due.is("11: not at the other end", x.line.count(0, 3), 0);
@@ -281,7 +219,7 @@ public final class FindingsTest {
     }
 
     private static void countOfWrongSecondHalves() {
-        Timed x = withOnes().breakSlot(1, 41);
+        Timed x = Timed.withOnes().breakSlot(1, 41);
         Due.is("11: the half behind is not complete", x.to(Timed.complete(55) - 1).line.count(1, 3), 0);
         Due.is("11: a second half wrong", x.to(Timed.complete(55)).line.count(1, 3), 1);
         Due.is("11: not told in frame 13", x.to(Timed.complete(63) - 1).line.count(0, 4), 0);
@@ -292,13 +230,13 @@ public final class FindingsTest {
 
     private static void countOfHalvesThatBeginNotKnown() {
         // the number is known with frame 27, when the half from frame 24 on has begun
-        Timed x = withOnes().breakSlot(1, 29).to(2000);
+        Timed x = Timed.withOnes().breakSlot(1, 29).to(2000);
         Due.is("11: it began not known", x.line.count(1, 3), 0);
     }
 
     private static void countOfHalvesThatEndNotKnown() {
         // the number is not known any more with frame 59, before the half 48 .. 55 is compared
-        Timed x = withOnes().breakM(1, 37).breakM(1, 53).to(Timed.complete(59));
+        Timed x = Timed.withOnes().breakM(1, 37).breakM(1, 53).to(Timed.complete(59));
         Due.is("8: not known", x.line.frame(1), NONE);
         Due.is("11: the half of frame 37", x.line.count(1, 3), 1);
         Due.is("11: not the half of frame 53", x.to(4000).line.count(1, 3), 1);
@@ -306,17 +244,14 @@ public final class FindingsTest {
 
     private static void countOfWrongCheckBits() {
         // the check of the frames 32 .. 39 of ones is 1110: C of frame 46 is 0, and comes as 1
-        Timed x = withOnes().to(32 * 46 + 3);
-        int pulse = x.line.symbol(1);
-        Due.is("6: the last bit of frame 45 is 1", pulse != 0, true);
-        x.line.disturb(1, 1, pulse);
+        Timed x = Timed.withOnes().comeAsOne(1, 46, 1);
         Due.is("9: C", x.to(Timed.complete(46)).line.slot(1, 0), 0x9B);
         Due.is("11: the half before it", x.to(Timed.complete(47)).line.count(1, 3), 1);
         Due.is("11: C is 0 in its own half", x.to(4000).line.count(1, 3), 1);
     }
 
     private static void wrongIsForgottenWithTheAlignment() {
-        Timed x = withOnes().breakSlot(1, 33).to(Timed.complete(47));
+        Timed x = Timed.withOnes().breakSlot(1, 33).to(Timed.complete(47));
         Due.is("11: a half wrong", x.line.count(1, 3), 1);
         x.breakWord(1, 52).breakWord(1, 54).breakWord(1, 56).to(32 * 56 + 14);
         Due.is("7: lost", x.line.aligned(1), false);
@@ -324,13 +259,8 @@ public final class FindingsTest {
     }
 
     private static void wrongIsForgottenWithTheNumber() {
-        Timed x = withOnes().breakM(1, 37).breakM(1, 53).to(Timed.complete(59));
+        Timed x = Timed.withOnes().breakM(1, 37).breakM(1, 53).to(Timed.complete(59));
         Due.is("11: a half was wrong", x.line.count(1, 3), 1);
         Due.is("11: not told any more", x.to(4000).line.count(0, 4), 0);
-    }
-
-    /** An object at time 920: the frames 25 and on of both ends have ones alone in their slots 1 .. 3. */
-    private static Timed withOnes() {
-        return new Timed().to(800).loadAll(0, 255, 255, 255).loadAll(1, 255, 255, 255).to(920);
     }
 }

@@ -15,7 +15,9 @@ final class Timed {
             throw new IllegalStateException("time " + time + " is over");
         }
         while (now < time) {
-            now = line.pass(Math.min(600, time - now));
+            int times = Math.min(600, time - now);
+            line.pass(times);
+            now += times;
         }
         return this;
     }
@@ -59,5 +61,27 @@ final class Timed {
     /** One 1 among ones in slot 1 does not come, and no other bit changes. */
     Timed breakSlot(int end, int frame) {
         return disturbBit(end, frame, 12, 0);
+    }
+
+    /** M, C or another bit of a frame comes as a 1, behind a bit that comes as a pulse. */
+    Timed comeAsOne(int end, int frame, int bit) {
+        to(32 * frame + bit + 2);
+        // right behind a pulse, one like it is no V, and no pulse behind it becomes a violation
+        line.disturb(end, 1, line.symbol(end));
+        return this;
+    }
+
+    /** These symbols come to an end in the next times, whatever is sent. */
+    Timed come(int end, String symbols) {
+        for (int i = 0; i < symbols.length(); i++) {
+            line.disturb(end, 1, "-0+".indexOf(symbols.charAt(i)) - 1);
+            to(now + 1);
+        }
+        return this;
+    }
+
+    /** An object at time 920: the frames 25 and on of both ends have ones alone in their slots 1 .. 3. */
+    static Timed withOnes() {
+        return new Timed().to(800).loadAll(0, 255, 255, 255).loadAll(1, 255, 255, 255).to(920);
     }
 }
